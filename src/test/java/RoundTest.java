@@ -49,8 +49,9 @@ public final class RoundTest {
         Check.due("gain(0)", x.gain(0), 26 - 15);
         Check.due("stop(0)", x.stop(0), 2);
         Check.row(x, 1, -1, -1, 1);
-        // 80 in a hundred of what ROOM 1 has behind two minutes, 412500 - 400000 / 2 and what comes: it pays.
-        Check.due("stop(1)", x.stop(1), x.gain(1) > 0 ? 3 : 0);
+        // Two minutes cost 10, then 80 in a hundred of 400000 PARTS are FOUND.
+        Check.due("gain(1)", x.gain(1), 32 - 15);
+        Check.due("stop(1) at last", x.stop(1), 3);
         Check.row(x, 2, -1, -1);
         Check.due("gain(2) is below 0", x.gain(2), -10);
         Check.due("stop(2) at once", x.stop(2), 0);
