@@ -1119,30 +1119,17 @@ public final class CallForBrown {
             }
             place = next;
             value = 0;
-            if (next >= tape.size) {
-                kind = AT_END;
+            kind = next < tape.size ? kindOf(tape.at(next)) : AT_END;
+            if (kind == SIGN || kind == UNKNOWN) {
+                next++;
                 return;
             }
-            kind = kindOf(tape.at(next));
-            next++;
-            if (kind == WORD || kind == NUMBER) {
-                while (next < tape.size && kindOf(tape.at(next)) == kind) {
-                    next++;
+            while (next < tape.size && kindOf(tape.at(next)) == kind) {
+                if (kind == NUMBER && value < HUGE) {
+                    value = value * 10 + tape.at(next) - '0';
                 }
+                next++;
             }
-            if (kind == NUMBER) {
-                value = numberAt(place, next);
-            }
-        }
-
-        private int numberAt(int from, int to) {
-            int number = 0;
-            for (int i = from; i < to; i++) {
-                if (number < HUGE) {
-                    number = number * 10 + tape.at(i) - '0';
-                }
-            }
-            return number;
         }
 
         private boolean isBlank(int sign) {
@@ -1456,22 +1443,18 @@ public final class CallForBrown {
             return chanceOf(MILLION - found - out);
         }
 
+        /** How much a CALL in a ROOM would find (NONE: nothing). */
         int audible(House house, int room, int pence) {
-            return house.hasRoom(room) ? in[room] * house.heard(room, pence) / 100 : 0;
-        }
-
-        int callIn(House house, int room, int pence) {
-            int got = audible(house, room, pence);
-            if (house.hasRoom(room)) {
-                in[room] -= got;
-                found += got;
-            }
-            return got;
+            return room >= 0 && room < MAX_ROOMS ? in[room] * house.heard(room, pence) / 100 : 0;
         }
 
         /** One MINUTE with its CALL (NONE: without): how much is FOUND. */
         int live(House house, int room, int pence) {
-            int got = callIn(house, room, pence);
+            int got = audible(house, room, pence);
+            if (got > 0) {
+                in[room] -= got;
+                found += got;
+            }
             pass(house, NONE);
             return got;
         }

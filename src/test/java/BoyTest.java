@@ -63,6 +63,11 @@ public final class BoyTest {
         for (int i = 0; i < 4; i++) {
             Check.due("the least row of four, " + i, x.goes(2, 4, i), least[i]);
         }
+        for (int room = 0; room < 3; room++) {
+            x.tell(room, 1, 0);
+        }
+        Check.due("nothing is heard", x.best(2, 3), 0);
+        Check.due("the least row of nothing", x.goes(2, 3, 2), 0);
     }
 
     private static void begins() {
@@ -76,6 +81,14 @@ public final class BoyTest {
         last.shut(2, 3, 0);
         Check.due("only from 3", last.begins(1), 3);
         Check.due("only from 3, long", last.begins(5), 3);
+        CallForBrown first = Check.told("house moves 0 here 100 worth 1 price 1;room people 0 hears 12 sits 1;"
+                + "room people 0 hears 10 sits 1;");
+        Check.due("only from 0", first.begins(1), 0);
+        CallForBrown nobody = Check.told("house moves 0 here 0 worth 1 price 1;room people 0 hears 12 sits 1;"
+                + "room people 0 hears 10 sits 1;");
+        Check.due("nobody, the first", nobody.begins(3), 0);
+        CallForBrown single = Check.told("house moves 0 here 50 worth 1 price 1;room people 0 hears 12 sits 1;");
+        Check.due("one room", single.begins(3), 0);
         Check.due("begins(-1)", last.begins(-1), -2);
         Check.due("begins(6)", last.begins(6), -2);
     }

@@ -99,6 +99,18 @@ public final class EveningTest {
         x.row(0, 0, 0);
         evening(x, 1, -1, 1);
         aloneInARoom();
+        movesOrNot();
+    }
+
+    /** The third draw of seed 0 is 88. */
+    private static void movesOrNot() {
+        String rooms = " here 80 worth 1 price 1;room people 0 hears 0 sits 4;room people 0 hears 0 sits 0;door 0 1;";
+        CallForBrown stays = Check.told("house moves 88" + rooms);
+        Check.row(stays, 0, -1);
+        evening(stays, 0, -1, 0);
+        CallForBrown goes = Check.told("house moves 89" + rooms);
+        Check.row(goes, 0, -1);
+        evening(goes, 0, -1, 1);
     }
 
     /** Without doors nothing is drawn for going: 9988, 22117 are both CALLS. */

@@ -157,6 +157,9 @@ public final class HouseTest {
         faultIn(seven, "room", 3);
         faultIn(seven, "room people 1000", 3);
         faultIn(seven, "rooms", 1);
+        faultIn(seven, "roomz", 1);
+        faultIn(seven, "rooma", 1);
+        faultIn(seven, "room0", 3);
     }
 
     private static void manFaults() {
@@ -236,6 +239,13 @@ public final class HouseTest {
         Check.tell(x, FIRST + MAN + MAN);
         Check.due("slate(0, 1) of another house", x.slate(0, 1), 0);
         Check.due("slate(1, 1) of another house", x.slate(1, 1), 1);
+        Check.tell(x, FIRST + MAN + MAN + MAN + "slate 2 as 0 5;slate 2 as 1 6;slate 1 as 0 7;slate 0 as 2 8;slate 2 as 2 9;");
+        Check.tell(x, FIRST + MAN + MAN + MAN);
+        for (int man = 0; man < 3; man++) {
+            for (int as = 0; as < 3; as++) {
+                Check.due("slate(" + man + ", " + as + ") anew", x.slate(man, as), man == as ? 1 : 0);
+            }
+        }
     }
 
     private static void hearsByPence() {

@@ -25,6 +25,10 @@ public final class MenTest {
         Check.due("which(6)", x.which(6), 1);
         Check.due("question(6)", x.question(6), 0);
         Check.due("which(4)", x.which(4), 0);
+        Check.due("which(1)", x.which(1), 0);
+        Check.due("question(1)", x.question(1), -1);
+        Check.due("yes(1, 0)", x.yes(1, 0), 1);
+        Check.due("list(1)", x.list(1), 0);
         Check.due("question(4)", x.question(4), -1);
         Check.due("yes(7, 0)", x.yes(7, 0), 3);
         Check.due("yes(6, 0)", x.yes(6, 0), 2);
@@ -73,6 +77,9 @@ public final class MenTest {
         CallForBrown few = Check.told(FIRST + "man weighs 1 yes 5;man weighs 1;man weighs 1 yes 0 1 5;");
         Check.due("fewest, then least", few.list(3), 32);
         Check.due("two are needed", few.list(7), 33);
+        // 0, 1, 2 tell them apart too, and 7 is less than 24, but they are three.
+        CallForBrown four = Check.told(FIRST + "man weighs 1;man weighs 1 yes 0 3;man weighs 1 yes 1 4;man weighs 1 yes 2 3 4;");
+        Check.due("fewest ahead of least", four.list(15), 24);
     }
 
     private static void meant() {
@@ -119,6 +126,9 @@ public final class MenTest {
         Check.due("right(0) of none", never.right(0), 0);
         Check.due("right(1) of none", never.right(1), 1);
         Check.due("guess(0) of none", never.guess(0), 1);
+        CallForBrown single = Check.told(FIRST + "man weighs 7;");
+        Check.due("right(0) of one", single.right(0), 1);
+        Check.due("guess(0) of one", single.guess(0), 0);
         CallForBrown even = Check.told(FIRST + "man weighs 2;man weighs 1;slate 0 as 1 1;");
         chance(even, 0, 1, 1, 2);
         Check.due("the first of several", even.guess(1), 0);

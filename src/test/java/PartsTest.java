@@ -79,6 +79,10 @@ public final class PartsTest {
         odd.call(-1);
         // 3333: 2333 leave, 777 by each of three; 6666: 4666 leave.
         parts(odd, "odd later", 3333 - 3 * 777 + 4666, 6666 - 4666 + 777, 777, 777, 990001);
+        CallForBrown one = Check.told("house moves 1 here 1 worth 1 price 1;room people 0 hears 0 sits 1;"
+                + "room people 0 hears 0 sits 99;room people 0 hears 0 sits 0;door 0 2;");
+        one.call(-1);
+        parts(one, "one part goes", 99, 9900, 1, 990000);
     }
 
     private static void takenBack() {
@@ -154,6 +158,16 @@ public final class PartsTest {
         Check.due("chance(0)", x.chance(0), 0);
         Check.due("chance(NONE)", x.chance(-1), 0);
         Check.due("likely()", x.likely(), 0);
+        CallForBrown thirds = Check.told("house moves 0 here 100 worth 1 price 1;room people 0 hears 100 sits 1;"
+                + "room people 0 hears 100 sits 1;room people 0 hears 100 sits 1;");
+        Check.due("the first of several", thirds.likely(), 0);
+        thirds.call(0);
+        Check.due("the first of two", thirds.likely(), 1);
+        thirds.call(1);
+        thirds.call(2);
+        Check.due("all but one", thirds.found(), 999999);
+        Check.due("he is out then", thirds.chance(-1), 1000000);
+        Check.due("not here", thirds.here(), 0);
     }
 
     private static void rest() {
@@ -170,6 +184,11 @@ public final class PartsTest {
         // One in a hundred goes: behind 200 minutes the one ROOM still has more to give than the other.
         CallForBrown slow = Check.told("house moves 1" + pair);
         Check.due("slow", slow.rest(), -1);
+        CallForBrown last = Check.told("house moves 2 here 5 worth 1 price 1;room people 0 hears 0 sits 1;"
+                + "room people 0 hears 0 sits 0;door 0 1;");
+        Check.due("200 minutes are asked", last.rest(), 200);
+        last.call(-1);
+        Check.due("199 from then on", last.rest(), 199);
     }
 
     private static void atOnce() {
@@ -220,6 +239,14 @@ public final class PartsTest {
         Check.due("the first of several", like.desk(9), 0);
         like.call(-1);
         Check.due("card(0, 1) of halves", like.card(0, 1), 600000);
+        // Behind 200 minutes what is left in 1 is less than two, of which no half goes.
+        Check.due("card(0, 200)", like.card(0, 200), 799999);
+        CallForBrown nobody = Check.told("house moves 50 here 0 worth 1 price 1;room people 0 hears 0 sits 1;"
+                + "room people 0 hears 0 sits 1;door 0 1;");
+        Check.due("desk of nobody", nobody.desk(3), 0);
+        CallForBrown single = Check.told("house moves 50 here 50 worth 1 price 1;room people 0 hears 0 sits 1;");
+        Check.due("desk of one room", single.desk(200), 0);
+        Check.due("card of one room", single.card(0, 200), 500000);
     }
 
     private static void wrongInputs() {

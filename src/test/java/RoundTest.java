@@ -64,6 +64,15 @@ public final class RoundTest {
         // 1.5, 2.25, 2.625 by then, cut, less 1, 2, 3.
         Check.due("gain is cut", cut.gain(0), -1);
         Check.due("stop of like ones", cut.stop(0), 0);
+        CallForBrown once = Check.told("house moves 0 here 100 worth 2 price 1;room people 0 hears 100 sits 1;");
+        Check.row(once, 0, 0, -1);
+        Check.due("a gain of one", once.stop(0), 1);
+        x.call(1);
+        x.call(1);
+        Check.row(x, 0, 2, -1);
+        // What was FOUND ahead counts for nothing: 25 in a hundred of what ROOM 2 has, no more than price.
+        Check.due("parts(2)", x.parts(2) < 200000 ? 1 : 0, 1);
+        Check.due("stop from now on", x.stop(0), 0);
     }
 
     private static void doubts() {
@@ -108,6 +117,13 @@ public final class RoundTest {
         Check.due("penny(0), the fewest of several", x.penny(0), 1);
         Check.row(x, 1, -1, -1);
         Check.due("penny(1) without calls", x.penny(1), 0);
+        CallForBrown each = Check.told("house moves 0 here 100 worth 10 price 0;room people 0 hears 50 sits 1;");
+        Check.row(each, 0, 0);
+        // 5; 7 - 1; 8 - 2; 8 - 3; ..
+        Check.due("penny(0) for one call", each.penny(0), 1);
+        CallForBrown heard = Check.told("house moves 0 here 100 worth 10 price 0;room people 0 hears 100 sits 1;");
+        Check.row(heard, 0, 0);
+        Check.due("penny(0) where all is heard", heard.penny(0), 0);
         CallForBrown dear = Check.told("house moves 0 here 100 worth 999 price 0;room people 0 hears 0 sits 1;");
         Check.row(dear, 0, 0);
         // 0, 500, 670, .. 900 in a thousand, less a penny each.
@@ -128,6 +144,9 @@ public final class RoundTest {
         CallForBrown just = Check.told("house moves 0 here 100 worth 10 price 5;room people 0 hears 50 sits 1;");
         Check.row(just, 0, 0, 0);
         Check.due("as much as price is not below", just.hangs(0), 1);
+        CallForBrown less = Check.told("house moves 0 here 100 worth 10 price 6;room people 0 hears 50 sits 1;");
+        Check.row(less, 0, 0);
+        Check.due("without pence", less.hangs(0), 0);
         CallForBrown free = Check.told("house moves 0 here 100 worth 0 price 0;room people 0 hears 50 sits 1;");
         Check.row(free, 0, -1);
         Check.due("nothing is below 0", free.hangs(0), -1);
