@@ -387,7 +387,7 @@ public final class CallForBrown {
     // Trumpets, calls at once, cards.
 
     public int trumpet() {
-        return hasHouse() ? foundAtOnce((1 << state.house.rooms) - 1) : NO_SUCH;
+        return hasHouse() ? foundAtOnce(state.house.allRooms()) : NO_SUCH;
     }
 
     public int quiet(int n) {
