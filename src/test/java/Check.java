@@ -2,6 +2,7 @@
 final class Check {
     private static int passed = 0;
     private static int failed = 0;
+    private static String sentence = "";
 
     private Check() {
     }
@@ -11,8 +12,48 @@ final class Check {
             passed++;
         } else {
             failed++;
-            System.out.println(call + " answered " + got + ", due is " + want);
+            System.out.println(sentence + call + " answered " + got + ", due is " + want);
         }
+    }
+
+    /** Which sentence of the document the next answers are due to; SentenceTest looks whether it stands there. */
+    static void says(String where, String words) {
+        sentence = "[" + where + ": " + words + "] ";
+    }
+
+    /** All that was seen by look() is seen so again. */
+    static void stays(String call, CallForBrown x, String seen) {
+        String now = look(x);
+        if (!now.equals(seen)) {
+            System.out.println(seen + "\n" + now);
+        }
+        due("what stays behind " + call, now.equals(seen) ? 1 : 0, 1);
+    }
+
+    /** What can be seen of HOUSE, MINUTES, TAPE, FAULT and SLOTS without a change. */
+    static String look(CallForBrown x) {
+        StringBuilder seen = new StringBuilder();
+        for (int what = 0; what <= 7; what++) {
+            seen.append(x.count(what)).append(' ');
+        }
+        seen.append("fault ").append(x.fault(0)).append(' ').append(x.fault(1)).append(" found ").append(x.found());
+        for (int room = -1; room < x.count(0); room++) {
+            seen.append(" room ").append(room).append(": ").append(x.parts(room)).append(' ').append(x.later(room, 1));
+            for (int what = 0; room >= 0 && what <= 3; what++) {
+                seen.append(' ').append(x.room(room, what));
+            }
+        }
+        for (int man = 0; man < x.count(2); man++) {
+            seen.append(" man ").append(man).append(": ").append(x.man(man, 0)).append(' ').append(x.man(man, 1));
+            for (int as = 0; as < x.count(2); as++) {
+                seen.append(' ').append(x.slate(man, as));
+            }
+        }
+        for (int slot = 0; slot <= 3; slot++) {
+            seen.append(" slot ").append(slot).append(": ").append(x.round(slot)).append(' ').append(x.gain(slot));
+            seen.append(' ').append(x.disturbs(slot)).append(' ').append(x.habit(slot)).append(' ').append(x.period(slot));
+        }
+        return seen.toString();
     }
 
     /** The closing line, and exit code 1 if an answer was not the one that is due. */
