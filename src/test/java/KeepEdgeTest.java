@@ -37,14 +37,19 @@ public final class KeepEdgeTest {
             Check.stays("back(" + k + ")", x, seen[k]);
         }
         Check.due("forth again", x.back(2), 0);
-        Check.stays("forth again", x, seen[2]);
+        Check.due("two MINUTES", x.count(6), 2);
         Check.says("61", "-2: no such k.");
+        CallForBrown y = Check.told(CHAIN);
+        String before = Check.look(y);
+        y.image(0);
+        y.call(1);
+        String after = Check.look(y);
         for (int k : NO_IMAGES) {
-            Check.due("image(" + k + ")", x.image(k), -2);
+            Check.due("image(" + k + ")", y.image(k), -2);
         }
-        Check.stays("no such k", x, seen[2]);
-        x.back(0);
-        Check.stays("no IMAGE went", x, seen[0]);
+        Check.stays("no such k", y, after);
+        y.back(0);
+        Check.stays("no IMAGE went", y, before);
     }
 
     private static void imageKeeps() {

@@ -8,16 +8,18 @@ import java.util.Random;
 
 /** Long runs of calls of all sorts, on the class and on the Model of the tests; seeds are fixed. */
 public final class ModelTest {
-    private static final int RUNS = 300;
-    private static final int CALLS = 400;
+    private static final int RUNS = 600;
+    /** Behind so many calls what an object answers is free. */
+    private static final int CALLS = 512;
     /** What each argument is: r a ROOM, o or NONE, m a MAN, S a set, s a SLOT, n MINUTES, M of a million, 2 below two .. */
     private static final Map<String, String> ARGUMENTS = new HashMap<>();
     private static final List<Method> FACE = new ArrayList<>();
     private static final List<Method> MODEL = new ArrayList<>();
 
     private final Random random;
-    private final CallForBrown x = new CallForBrown();
-    private final Model model = new Model();
+    private CallForBrown x = new CallForBrown();
+    private Model model = new Model();
+    private int made;
     private final StringBuilder told = new StringBuilder();
 
     private ModelTest(long seed) {
@@ -58,12 +60,12 @@ public final class ModelTest {
 
     private void go(int run) throws Exception {
         texts(run % 10 == 0 ? 25 : 3);
-        for (int i = 0; i < CALLS; i++) {
+        while (made < CALLS - 100) {
             int which = random.nextInt(FACE.size());
             String name = FACE.get(which).getName();
             boolean rare = name.equals("house") || name.equals("end") || name.equals("anew");
             boolean dear = name.equals("begins") || name.equals("soon");
-            if (random.nextInt(10) == 0) {
+            if (random.nextInt(20) == 0) {
                 rows();
             }
             if (rare && random.nextInt(15) != 0 || dear && random.nextInt(5) != 0) {
@@ -74,6 +76,7 @@ public final class ModelTest {
     }
 
     private void both(int which, int run) throws Exception {
+        made++;
         Method method = FACE.get(which);
         Object[] args = new Object[method.getParameterCount()];
         StringBuilder call = new StringBuilder("run " + run + " " + told + ": " + method.getName() + "(");
@@ -95,16 +98,16 @@ public final class ModelTest {
                 200, 201, 999, 1000, 1000000, 1000001, 2000000000, 2000000001};
             return edges[random.nextInt(edges.length)];
         }
-        int rooms = Math.max(1, x.count(0));
+        int rooms = Math.max(1, model.count(0));
         switch (ARGUMENTS.get(name).charAt(i)) {
             case 'r':
                 return random.nextInt(rooms);
             case 'o':
                 return random.nextInt(rooms + 1) - 1;
             case 'm':
-                return random.nextInt(Math.max(1, x.count(2)));
+                return random.nextInt(Math.max(1, model.count(2)));
             case 'S':
-                return 1 + random.nextInt(Math.max(1, (1 << x.count(2)) - 1));
+                return 1 + random.nextInt(Math.max(1, (1 << model.count(2)) - 1));
             case 's':
                 return random.nextInt(4);
             case 'n':
@@ -131,11 +134,11 @@ public final class ModelTest {
             case 0:
                 return random.nextInt(1000001);
             case 1:
-                return Math.max(0, x.here() + random.nextInt(3) - 1);
+                return Math.max(0, model.here() + random.nextInt(3) - 1);
             case 2:
-                return Math.max(0, x.best(random.nextInt(Math.max(1, x.count(0))), random.nextInt(6)) + random.nextInt(3) - 1);
+                return Math.max(0, model.best(random.nextInt(Math.max(1, model.count(0))), random.nextInt(6)) + random.nextInt(3) - 1);
             default:
-                return Math.max(0, x.trumpet() / (1 + random.nextInt(3)) + random.nextInt(3) - 1);
+                return Math.max(0, model.trumpet() / (1 + random.nextInt(3)) + random.nextInt(3) - 1);
         }
     }
 
@@ -144,14 +147,15 @@ public final class ModelTest {
         int slot = random.nextInt(4);
         int width = random.nextInt(4);
         int n = random.nextInt(3) == 0 ? random.nextInt(61) : random.nextInt(7);
+        made += n + 1;
         x.row(slot, width, n);
         model.row(slot, width, n);
         int least = random.nextBoolean() ? 0 : -1;
-        int rooms = Math.max(1, x.count(0));
+        int rooms = Math.max(1, model.count(0));
         int at = random.nextInt(rooms);
         for (int i = 0; i < n; i++) {
             int next = random.nextInt(rooms - least) + least;
-            boolean step = next == -1 || next == at || x.far(at, next) == 1;
+            boolean step = next == -1 || next == at || model.far(at, next) == 1;
             int v = step || random.nextInt(20) == 0 ? next : at;
             at = v == -1 ? at : v;
             x.write(slot, i, v);
@@ -167,6 +171,12 @@ public final class ModelTest {
             }
             told.setLength(0);
             told.append(text);
+            if (made > CALLS / 4) {
+                x = new CallForBrown();
+                model = new Model();
+                made = 0;
+            }
+            made += (text.length() + 19) / 20 + 5;
             Check.put(x, text);
             put(text);
             Check.due("house() of " + text, x.house(), model.house());
