@@ -119,6 +119,9 @@ public final class BoyEdgeTest {
         Check.due("the first", x.begins(5), 0);
         x.shut(0, 1, 1);
         Check.due("and by a door", x.begins(2), 0);
+        CallForBrown single = Check.told(STILL + room(10, 1));
+        Check.due("one ROOM", single.begins(5), 0);
+        Check.due("one ROOM, no MINUTE", single.begins(0), 0);
         Check.says("29", "-2: there is no such n, no ROOM.");
         Check.due("begins(6)", x.begins(6), -2);
         for (int far : FAR) {

@@ -136,6 +136,14 @@ public final class HouseEdgeTest {
         Check.tell(x, FIRST + ROOM + ROOM + MAN + MAN);
         Check.due("no door of the first", x.room(0, 3), 0);
         Check.due("no slate of the first", x.slate(0, 1), 0);
+        String three = FIRST + MAN + MAN + MAN;
+        Check.tell(x, three + "slate 0 as 2 1;slate 1 as 0 2;slate 1 as 1 3;slate 1 as 2 4;slate 2 as 0 5;slate 2 as 1 6;");
+        Check.tell(x, three);
+        for (int man = 0; man < 3; man++) {
+            for (int as = 0; as < 3; as++) {
+                Check.due("slate(" + man + ", " + as + ") anew", x.slate(man, as), man == as ? 1 : 0);
+            }
+        }
         Check.due("the TAPE is empty", x.count(5), 0);
     }
 

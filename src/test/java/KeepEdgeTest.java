@@ -76,6 +76,19 @@ public final class KeepEdgeTest {
         x.back(2);
         Check.due("another in its place", x.count(6), 59);
         Check.due("as it was made", x.call(-1), 0);
+        CallForBrown other = Check.told(CHAIN);
+        other.call(1);
+        other.call(0);
+        seen = Check.look(other);
+        other.image(0);
+        other.anew();
+        other.call(2);
+        other.call(-1);
+        other.call(2);
+        other.back(0);
+        Check.stays("other MINUTES made", other, seen);
+        other.undo();
+        Check.due("the first of its own", other.found(), 160000);
         Check.due("the IMAGE stays", x.back(2), 0);
         Check.due("at 59", x.count(6), 59);
     }

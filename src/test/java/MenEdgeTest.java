@@ -41,6 +41,9 @@ public final class MenEdgeTest {
         CallForBrown halves = Check.told(FIRST + "man weighs 1 yes 0 1 2;man weighs 1 yes 0 1;man weighs 1 yes 0 2;"
                 + "man weighs 1 yes 1 2;man weighs 1 yes 1;man weighs 1 yes 2;");
         Check.due("which(63) by halves", halves.which(63), 3);
+        CallForBrown best = Check.told(FIRST + "man weighs 1 yes 0 1 2;man weighs 1 yes 1;man weighs 1 yes 2;man weighs 1;");
+        Check.due("not by what parts one off", best.which(15), 2);
+        Check.due("but by QUESTION 1", best.question(15), 1);
         Check.says("45", "NONE: they can't; -2: there is no such set, no HOUSE.");
         CallForBrown like = Check.told(LIKE);
         Check.due("two like ones", like.which(3), -1);
@@ -123,6 +126,8 @@ public final class MenEdgeTest {
         CallForBrown alike = Check.told(LIKE);
         Check.due("like ones", alike.list(3), -1);
         Check.due("like ones of three", alike.list(7), -1);
+        Check.due("one of the like ones", alike.list(5), 2);
+        Check.due("the other of them", alike.list(6), 2);
         for (int set : NO_SETS) {
             Check.due("list(" + set + ")", x.list(set), -2);
         }
@@ -251,6 +256,7 @@ public final class MenEdgeTest {
         CallForBrown last = Check.told(FIRST + "man weighs 2;man weighs 1;man weighs 3;slate 0 as 1 1;slate 2 as 1 1;");
         // 1, 1 and a half more.
         Check.due("the last", last.guess(1), 2);
+        Check.due("one MAN", Check.told(FIRST + "man weighs 1;").guess(0), 0);
         Check.says("51", "NONE: none is read so; -2: there is none such.");
         Check.due("none is read as 2", x.guess(2), -1);
         for (int man : NO_MEN) {
@@ -272,6 +278,8 @@ public final class MenEdgeTest {
         CallForBrown half = Check.told(FIRST + "man weighs 5;man weighs 5;slate 0 as 1 1;slate 1 as 0 1;");
         Check.due("a half", half.right(0), 1);
         Check.due("a half, below", half.right(1), 2);
+        Check.due("one MAN", Check.told(FIRST + "man weighs 1;").right(0), 1);
+        Check.due("one MAN, below", Check.told(FIRST + "man weighs 1;").right(1), 1);
         Check.says("52", "-2: there are no MEN, no such what.");
         for (int what : NO_WHATS) {
             Check.due("right(" + what + ")", sure.right(what), -2);

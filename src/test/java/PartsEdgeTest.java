@@ -129,6 +129,13 @@ public final class PartsEdgeTest {
         all.call(0);
         Check.due("all is FOUND", all.chance(0), 0);
         Check.due("not OUT either", all.chance(-1), 0);
+        CallForBrown thirds = Check.told(house(0, 100) + room(1, 100, 1) + room(1, 100, 1) + room(1, 100, 1));
+        thirds.call(0);
+        thirds.call(1);
+        thirds.call(2);
+        Check.due("all but one is FOUND", thirds.found(), 999999);
+        Check.due("the one is OUT", thirds.chance(-1), 1000000);
+        Check.due("and in no ROOM", thirds.chance(2), 0);
         Check.says("14", "-2: there is none such, no HOUSE.");
         for (int far : FAR) {
             Check.due("chance(" + far + ")", x.chance(far), -2);
@@ -150,6 +157,11 @@ public final class PartsEdgeTest {
         Check.due("nothing is heard", deaf.call(0), 0);
         Check.due("but the MINUTE counts", deaf.count(6), 1);
         Check.due("NONE without ROOMS", Check.told(EMPTY).call(-1), 0);
+        CallForBrown few = Check.told(house(0, 1) + room(1, 1, 1) + room(1, 1, 99));
+        Check.due("one PART of a hundred", few.call(0), 1);
+        Check.due("the rest", few.parts(0), 99);
+        Check.due("none of 99", few.call(0), 0);
+        Check.due("one is FOUND", few.found(), 1);
     }
 
     private static void callRefused() {
@@ -380,6 +392,7 @@ public final class PartsEdgeTest {
         CallForBrown like = Check.told(house(0, 100) + room(1, 1, 1) + room(1, 1, 2) + room(1, 1, 2));
         Check.due("two like ones", like.desk(200), 1);
         Check.due("nobody", Check.told(house(0, 0) + room(1, 1, 1) + room(1, 1, 2)).desk(0), 0);
+        Check.due("one ROOM", Check.told(house(0, 100) + room(1, 1, 1)).desk(0), 0);
         Check.says("38", "-2: there is no such n, no ROOM.");
         Check.due("desk(-1)", x.desk(-1), -2);
         Check.due("desk(201)", x.desk(201), -2);

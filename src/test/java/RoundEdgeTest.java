@@ -187,6 +187,10 @@ public final class RoundEdgeTest {
         Check.due("all sixty", full.stop(0), 60);
         full.row(0, 0, 0);
         Check.due("an empty row", full.stop(0), 0);
+        CallForBrown begun = Check.told(house(999, 1) + room(1, 50, 1) + room(1, 0, 0));
+        begun.call(0);
+        Check.row(begun, 0, 1);
+        Check.due("what was FOUND ahead counts for nothing", begun.stop(0), 0);
         Check.says("23", "-2, -6 likewise (as round()).");
         CallForBrown y = Check.told(CHAIN);
         CallForBrown none = new CallForBrown();

@@ -189,6 +189,10 @@ public final class TermsEdgeTest {
         reads("\n\n  house\nmoves\n50 here 80 worth 100 price 5 ; \n", 1);
         reads("house moves 0000000000000000000000000000000000000100 here 00 worth 1 price 1;", 1);
         fails("", "housemoves 50", 1);
+        fails("", "mouse moves 50", 1);
+        fails("house ", "loves 50", 1);
+        fails("house moves 50 ", "mere 80", 1);
+        fails("house moves 50 here 80 ", "wortn 100", 1);
         fails("", "hous emoves 50", 1);
         fails("house moves 5 ", "0 here 80 worth 100 price 5;", 1);
         fails("house moves 50 here 80 worth 100 price ", "5000;", 2);
@@ -367,6 +371,10 @@ public final class TermsEdgeTest {
         later(house(1, 100, 1, 1) + seat(0, 1) + seat(0, 98) + seat(0, 0) + seat(0, 0) + "door 0 2;door 0 3;",
                 10101 - 100, 989898, 50, 50, 1);
         later(house(100, 1, 1, 1) + seat(0, 1) + seat(0, 0) + "door 0 1;", 0, 10000, 990000);
+        // Of 100 PARTS one leaves by one door, none by two.
+        String few = house(1, 1, 1, 1) + seat(0, 1) + seat(0, 99) + seat(0, 0) + seat(0, 0);
+        later(few + "door 0 2;", 99, 9900, 1, 0, 990000);
+        later(few + "door 0 2;door 0 3;", 100, 9900, 0, 0, 990000);
     }
 
     private static void later(String text, int... due) {
@@ -521,6 +529,10 @@ public final class TermsEdgeTest {
         Check.due("read(0, 1, 0)", blank.read(0, 1, 0), 0);
         Check.due("right(0)", blank.right(0), 1);
         Check.due("right(1)", blank.right(1), 1);
+        // All of 1 and half of 0, who weighs as much.
+        CallForBrown half = Check.told(FIRST + MAN + MAN + "slate 0 as 1 1;slate 1 as 1 0;");
+        Check.due("once as itself", half.read(1, 1, 0), 2);
+        Check.due("below", half.read(1, 1, 1), 3);
         CallForBrown other = Check.told(FIRST + MAN + MAN + "slate 0 as 0 0;slate 0 as 1 1;");
         Check.due("one told is not all 0", other.read(0, 0, 0), 0);
         Check.due("he is never himself", other.guess(0), -1);
@@ -606,6 +618,12 @@ public final class TermsEdgeTest {
         drawn(house(0, 100, 1, 1) + seat(14, 1), 1, 0, -1, 0);
         drawn(house(0, 100, 1, 1) + seat(0, 1), -1, 0, 0, 0, 0, 0, 0);
         drawn(house(0, 100, 1, 1) + seat(100, 1), 0, 0, 0, 0);
+        // Seed 0 draws 9988 there.
+        CallForBrown last = Check.told(house(0, 100, 1, 1) + seat(88, 1));
+        Check.row(last, 0, 0);
+        Check.due("88 is not below 88", last.drawn(0, 0, 0), -1);
+        last.tell(0, 1, 89);
+        Check.due("88 is below 89", last.drawn(0, 0, 0), 0);
         Check.says("VI", "then, if HE is in a ROOM with doors, a draw of 100: below moves, a draw of as many as it has doors");
         String pair = seat(0, 1) + seat(0, 0) + "door 0 1;";
         drawn(house(13, 100, 1, 1) + pair, -1, 0, -1);
