@@ -18,6 +18,10 @@ public final class SentenceTest {
             + "nothing|like ones|ahead|all are|all is|modulo|one place|none|first|stays|once|below|lowest");
 
     public static void main(String[] args) throws IOException {
+        if (!Files.isReadable(DOCUMENT)) {
+            System.out.println("there is no document to look at");
+            return;
+        }
         Map<String, String> document = parts(Files.readString(DOCUMENT));
         Check.due("terms and promises", document.size(), 6 + 65);
         Map<String, List<String>> quotes = quotes(document);
