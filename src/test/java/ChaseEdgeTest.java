@@ -9,6 +9,7 @@ public final class ChaseEdgeTest {
         twoRefused();
         way();
         wayFirst();
+        wayOfMany();
         wayRefused();
         slips();
         slipsRefused();
@@ -123,6 +124,21 @@ public final class ChaseEdgeTest {
         // From 1 and 2 it is 0 1.
         Check.due("way(1, 2, 0, 0)", three.way(1, 2, 0, 0), 0);
         Check.due("way(1, 2, 1, 0)", three.way(1, 2, 1, 0), 1);
+    }
+
+    /** Six ROOMS about one: one boy stands in it, the other CLEARS one each MINUTE; most can be where most differ. */
+    private static void wayOfMany() {
+        Check.says("41", "the first by rows of 10 times the first one's ROOM and the second one's.");
+        CallForBrown x = rooms(7, 0, 1, 0, 2, 0, 3, 0, 4, 0, 5, 0, 6);
+        Check.due("two(0, 0)", x.two(0, 0), 6);
+        Check.due("two(0, 1)", x.two(0, 1), 5);
+        int[] first = {0, 2, 0, 4, 0, 6, -1};
+        int[] second = {1, 0, 3, 0, 5, 0, -1};
+        for (int i = 0; i < 7; i++) {
+            Check.due("way(0, 0, 0, " + i + ")", x.way(0, 0, 0, i), first[i]);
+            Check.due("way(0, 0, 1, " + i + ")", x.way(0, 0, 1, i), second[i]);
+        }
+        Check.due("pairs()", x.pairs(), 28);
     }
 
     private static void wayRefused() {
